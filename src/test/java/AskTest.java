@@ -110,6 +110,8 @@ public final class AskTest {
         d.due("full, and the time back", x.ask(1, 0, 0, 1, 298), -2);
         d.due("299 is there", Due.request(x, 299, 4), 299);
         d.due("300 is not", Due.request(x, 300, 4), Due.THROWS);
+        d.due("the only copy of them", Due.past(x, 1000000000, 0), 299);
+        d.due("no second one", Due.past(x, 1000000000, 1), Due.THROWS);
         d.due("requests", x.statistics(1, 0), 300);
         d.due("refused ones", x.statistics(1, 1), 299);
     }

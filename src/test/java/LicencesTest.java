@@ -46,6 +46,8 @@ public final class LicencesTest {
         d.due("licence 50, from behind to", x.licence(0, 0, 1, 9, 0), -2);
         d.due("left(49)", x.left(49), 49);
         d.due("left(50)", x.left(50), -1);
+        d.due("none of all fifty holds", x.ask(0, 0, 0, 1, 10), 0);
+        d.due("within limits", Due.request(x, 0, 5), 3);
     }
 
     private static void whenItHolds() {
