@@ -114,6 +114,9 @@ public final class AskTest {
         d.due("no second one", Due.past(x, 1000000000, 1), Due.THROWS);
         d.due("requests", x.statistics(1, 0), 300);
         d.due("refused ones", x.statistics(1, 1), 299);
+        d.due("full at 400", x.ask(1, 0, 0, 1, 400), -4);
+        d.due("the call was not refused for 400", x.renew(299, 399), -2);
+        d.due("at 400", x.delete(299, 400), 1);
     }
 
     private static void timeNeverGoesBack() {

@@ -333,7 +333,11 @@ final class PlainModel {
         return out(i, 0, ended.size() - 1) ? Due.THROWS : ended.get(i);
     }
 
-    long time() {
-        return now;
+    int time() {
+        return (int) now;
+    }
+
+    int requestsMade() {
+        return requests.size();
     }
 }
