@@ -2,9 +2,10 @@ import java.util.ArrayList;
 import java.util.List;
 
 /**
- * Each call with every mixture of edges (too small, least, most, too large) of
- * its numbers, on objects that are empty, in use and full, against PlainModel;
- * then some calls more, which tell whether it changed what it should.
+ * Each call with mixtures of edges (too small, least, most, too large) of its
+ * numbers, against PlainModel; then some calls more, which tell whether it
+ * changed what it should. All calls on objects that are empty and in use; on
+ * full ones those that need room.
  */
 public final class EdgesTest {
     private static final int MIN = Integer.MIN_VALUE;
