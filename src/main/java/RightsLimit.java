@@ -263,8 +263,9 @@ public final class RightsLimit {
     }
 
     public int past(int t, int i) throws NoSuchElementException {
-        // A number that is no time has no copies whose end has come at it.
-        int number = isTime(t) ? requests.endedAt(t, i) : NONE;
+        // The document names no time that past refuses: "none such" is all it
+        // throws for. An end can lie behind the last time, and comes there too.
+        int number = requests.endedAt(t, i);
         if (number == NONE) {
             throw new NoSuchElementException("no such copy");
         }

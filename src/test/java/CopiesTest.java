@@ -118,10 +118,11 @@ public final class CopiesTest {
     private static void pastAtOddTimes() {
         RightsLimit x = copyAndRefused();
         d.due("the latest time", Due.past(x, 1000000000, 0), 0);
-        d.due("no time: behind the latest", Due.past(x, 1000000001, 0), Due.THROWS);
-        d.due("no time: MAX", Due.past(x, Integer.MAX_VALUE, 0), Due.THROWS);
-        d.due("no time: -1", Due.past(x, -1, 0), Due.THROWS);
-        d.due("no time: MIN", Due.past(x, Integer.MIN_VALUE, 0), Due.THROWS);
+        d.due("behind the latest", Due.past(x, 1000000001, 0), 0);
+        d.due("MAX", Due.past(x, Integer.MAX_VALUE, 0), 0);
+        d.due("MAX, none such", Due.past(x, Integer.MAX_VALUE, 1), Due.THROWS);
+        d.due("-1: no end has come", Due.past(x, -1, 0), Due.THROWS);
+        d.due("MIN: no end has come", Due.past(x, Integer.MIN_VALUE, 0), Due.THROWS);
         d.due("the time did not go on", x.delete(0, 100), 1);
     }
 }

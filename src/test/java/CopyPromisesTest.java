@@ -130,7 +130,9 @@ public final class CopyPromisesTest {
         x.ask(0, 0, 0, 1, LATEST);
         d.due("once", x.renew(0, LATEST), LATEST + 2 * TERM);
         d.due("twice", x.renew(0, LATEST), LATEST + 3 * TERM);
-        d.due("its end never comes", Due.past(x, LATEST, 0), Due.THROWS);
+        d.due("its end has not come", Due.past(x, LATEST, 0), Due.THROWS);
+        d.due("nor a second before it", Due.past(x, LATEST + 3 * TERM - 1, 0), Due.THROWS);
+        d.due("it comes behind the latest time", Due.past(x, LATEST + 3 * TERM, 0), 0);
         d.due("deleted before its end", x.delete(0, LATEST), 1);
     }
 
@@ -391,8 +393,8 @@ public final class CopyPromisesTest {
             d.due("i " + i, Due.past(x, LATEST, i), Due.THROWS);
         }
         d.due("before every end", Due.past(x, 0, 0), Due.THROWS);
-        d.due("no time: -1", Due.past(x, -1, 0), Due.THROWS);
-        d.due("no time: MIN", Due.past(x, MIN, 0), Due.THROWS);
+        d.due("-1: before every end", Due.past(x, -1, 0), Due.THROWS);
+        d.due("MIN: before every end", Due.past(x, MIN, 0), Due.THROWS);
         d.due("there is one", Due.past(x, LATEST, 0), 0);
         asTheyWere(x);
     }

@@ -320,9 +320,6 @@ final class PlainModel {
     }
 
     long past(int t, int i) {
-        if (out(t, 0, 1000000000)) {
-            return Due.THROWS;
-        }
         List<Integer> ended = new ArrayList<>();
         for (int k = 0; k < requests.size(); k++) {
             Request r = requests.get(k);
